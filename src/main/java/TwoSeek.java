@@ -208,7 +208,7 @@ public final class TwoSeek {
     }
 
     public int distance(int a, int b) {
-        if (!town.isPlace(a) || !town.isPlace(b)) {
+        if (!arePlaces(a, b)) {
             return none(NO_SUCH);
         }
         int lanes = town.lanesBetween(a, b);
@@ -259,7 +259,7 @@ public final class TwoSeek {
     }
 
     public int when(int one, int other, int a, int b) {
-        if (!areWays(one, other) || !town.isPlace(a) || !town.isPlace(b)) {
+        if (!areWays(one, other) || !arePlaces(a, b)) {
             return none(NO_SUCH);
         }
         int ticks = walk.ticksToMeet(town, one, other, a, b);
@@ -295,11 +295,10 @@ public final class TwoSeek {
             return refuse(NO_SUCH);
         }
         int all = town.allLikelihoods();
-        int times = walk.allTimes(town, one, other);
-        if (all == 0 || times == NONE) {
+        if (all == 0 || !walk.meetAlways(town, one, other)) {
             return refuse(IMPOSSIBLE);
         }
-        tellFraction(times, all);
+        tellFraction(walk.allTimes, all);
         return done();
     }
 
@@ -307,17 +306,16 @@ public final class TwoSeek {
         if (!areWays(one, other)) {
             return none(NO_SUCH);
         }
-        if (town.allLikelihoods() == 0) {
+        if (town.allLikelihoods() == 0 || !walk.meetAlways(town, one, other)) {
             return none(IMPOSSIBLE);
         }
-        int longest = walk.longestTime(town, one, other);
-        return longest == NONE ? none(IMPOSSIBLE) : answer(longest);
+        return answer(walk.longestTime);
     }
 
     // ---- SAME, AGREED, ALIKE, PARTED
 
     public int same(int a, int b) {
-        if (!town.isPlace(a) || !town.isPlace(b)) {
+        if (!arePlaces(a, b)) {
             return none(NO_SUCH);
         }
         return answer(likeness.nobodyTellsApart(town, a, b) ? 1 : 0);
@@ -343,7 +341,7 @@ public final class TwoSeek {
     }
 
     public int parted(int a, int b, int what) {
-        if (!town.isPlace(a) || !town.isPlace(b) || a == b) {
+        if (!arePlaces(a, b) || a == b) {
             return none(NO_SUCH);
         }
         if (what == 0) {
@@ -403,7 +401,7 @@ public final class TwoSeek {
         if (!areWays(one, two) || !ways.isWay(last) || places < 0) {
             return none(NO_SUCH);
         }
-        if (!town.isPlace(a) || !town.isPlace(b) || !town.isPlace(c)) {
+        if (!arePlaces(a, b) || !town.isPlace(c)) {
             return none(NO_SUCH);
         }
         walk.beginThree(one, two, last, a, b, c);
@@ -415,7 +413,7 @@ public final class TwoSeek {
         if (!trays.isTray(ways) || !trays.isTray(others)) {
             return refuse(NO_TRAY);
         }
-        if (!town.isPlace(a) || !town.isPlace(b)) {
+        if (!arePlaces(a, b)) {
             return refuse(NO_SUCH);
         }
         if (!trays.isThere(ways) || !trays.isThere(others)) {
@@ -457,21 +455,23 @@ public final class TwoSeek {
             return none(NO_SUCH);
         }
         int all = town.allLikelihoods();
-        int least = walk.allTimes(town, one, other);
+        if (all == 0) {
+            return none(IMPOSSIBLE);
+        }
+        int least = walk.meetAlways(town, one, other) ? walk.allTimes : GREATEST;
         int best = NONE;
         for (int lane = 0; lane < town.lanes; lane++) {
             if (town.isShut(lane)) {
                 continue;
             }
             town.close(lane, true);
-            int times = walk.allTimes(town, one, other);
-            town.close(lane, false);
-            if (times != NONE && (least == NONE || times < least)) {
-                least = times;
+            if (walk.meetAlways(town, one, other) && walk.allTimes < least) {
+                least = walk.allTimes;
                 best = lane;
             }
+            town.close(lane, false);
         }
-        if (all == 0 || least == NONE) {
+        if (least == GREATEST) {
             return none(IMPOSSIBLE);
         }
         tellFraction(least, all);
@@ -479,7 +479,7 @@ public final class TwoSeek {
     }
 
     public int wander(int seed, int a, int b) {
-        if (!town.isPlace(a) || !town.isPlace(b)) {
+        if (!arePlaces(a, b)) {
             return none(NO_SUCH);
         }
         if (seed < 0) {
@@ -527,6 +527,10 @@ public final class TwoSeek {
 
     private boolean areWays(int one, int other) {
         return ways.isWay(one) && ways.isWay(other);
+    }
+
+    private boolean arePlaces(int a, int b) {
+        return town.isPlace(a) && town.isPlace(b);
     }
 
     private boolean areWaysIn(int tray, int many) {
@@ -668,6 +672,8 @@ public final class TwoSeek {
     private static final class Reader {
         private static final int MOST_TEXT = 500;
         private static final int LONGEST_NAME = 8;
+        private static final int MOST_SLOW = 4;
+        private static final int MOST_HEARS = 3;
 
         // kinds of TOKENS
         private static final int END = 0;
@@ -752,24 +758,21 @@ public final class TwoSeek {
         }
 
         private boolean takePart() {
-            return takeWhatIsTold() && takeSign();
-        }
-
-        /** A PART up to its SIGN, which is the TOKEN then. */
-        private boolean takeWhatIsTold() {
+            boolean taken;
             if (isWord(PLACE)) {
-                return takePlace();
+                taken = takePlace();
+            } else if (isWord(LANE)) {
+                taken = takeLane();
+            } else if (isWord(CROSS)) {
+                taken = takeCross();
+            } else if (isWord(SLOW)) {
+                taken = takeSlow();
+            } else if (isWord(HEARS)) {
+                taken = takeHears();
+            } else {
+                taken = wrong(CANT_STAND);
             }
-            if (isWord(LANE)) {
-                return takeLane();
-            }
-            if (isWord(CROSS)) {
-                return takeCross();
-            }
-            if (isWord(SLOW)) {
-                return takeSlow();
-            }
-            return isWord(HEARS) ? takeHears() : wrong(CANT_STAND);
+            return taken && takeSign();
         }
 
         private boolean takePlace() {
@@ -866,31 +869,32 @@ public final class TwoSeek {
         }
 
         private boolean takeSlow() {
-            if (slowTold) {
-                return wrong(TOLD_ALREADY);
-            }
-            slowTold = true;
-            next();
-            if (!takeNumber(1, 4)) {
+            if (!takeOnce(slowTold, 1, MOST_SLOW)) {
                 return false;
             }
+            slowTold = true;
             told.slow = (int) token;
             next();
             return true;
         }
 
         private boolean takeHears() {
-            if (hearsTold) {
-                return wrong(TOLD_ALREADY);
-            }
-            hearsTold = true;
-            next();
-            if (!takeNumber(0, 3)) {
+            if (!takeOnce(hearsTold, 0, MOST_HEARS)) {
                 return false;
             }
+            hearsTold = true;
             told.hears = (int) token;
             next();
             return true;
+        }
+
+        /** A WORD that may be told once, and its NUMBER, which is the TOKEN then. */
+        private boolean takeOnce(boolean already, int least, int most) {
+            if (already) {
+                return wrong(TOLD_ALREADY);
+            }
+            next();
+            return takeNumber(least, most);
         }
 
         private boolean takeNumber(int least, int most) {
@@ -923,16 +927,16 @@ public final class TwoSeek {
 
         /** The TOKEN that begins at or behind the reader's place. */
         private void next() {
-            for (int turn = 0; turn < MOST_TEXT && isBlank(at); turn++) {
+            for (int turn = 0; turn < MOST_TEXT && isBlank(byteAt(at)); turn++) {
                 at++;
             }
             start = at;
             token = 0;
             if (at >= length) {
                 kind = END;
-            } else if (isLetter(at)) {
+            } else if (isLetter(byteAt(at))) {
                 nextWord();
-            } else if (isDigit(at)) {
+            } else if (isDigit(byteAt(at))) {
                 nextNumber();
             } else {
                 kind = byteAt(at) == ';' ? SIGN : NO_TOKEN;
@@ -942,7 +946,7 @@ public final class TwoSeek {
 
         private void nextWord() {
             kind = WORD;
-            for (int turn = 0; turn < MOST_TEXT && isLetter(at); turn++) {
+            for (int turn = 0; turn < MOST_TEXT && isLetter(byteAt(at)); turn++) {
                 token = token << 8 | byteAt(at);
                 at++;
             }
@@ -952,25 +956,22 @@ public final class TwoSeek {
         }
 
         private void nextNumber() {
-            for (int turn = 0; turn < MOST_TEXT && isDigit(at); turn++) {
+            for (int turn = 0; turn < MOST_TEXT && isDigit(byteAt(at)); turn++) {
                 token = token * 10 + byteAt(at) - '0';
                 at++;
             }
             kind = at - start > 2 ? NO_TOKEN : NUMBER;
         }
 
-        private boolean isBlank(int place) {
-            int sign = byteAt(place);
+        private static boolean isBlank(int sign) {
             return sign == ' ' || sign == '\n';
         }
 
-        private boolean isLetter(int place) {
-            int sign = byteAt(place);
+        private static boolean isLetter(int sign) {
             return sign >= 'a' && sign <= 'z';
         }
 
-        private boolean isDigit(int place) {
-            int sign = byteAt(place);
+        private static boolean isDigit(int sign) {
             return sign >= '0' && sign <= '9';
         }
 
@@ -1003,8 +1004,8 @@ public final class TwoSeek {
         private final int[] leads = new int[MOST_PLACES * LANES_AT_A_PLACE];
         private final boolean[] shutLanes = new boolean[MOST_LANES];
         // by PLACES and STEPS, as LANES are SHUT now
-        private final int[] after = new int[MOST_PLACES * STEPS];
-        private final int[] lanesBetween = new int[PAIRS];
+        private final int[] stepsLead = new int[MOST_PLACES * STEPS];
+        private final int[] distances = new int[PAIRS];
 
         void clear() {
             places = 0;
@@ -1063,7 +1064,7 @@ public final class TwoSeek {
         }
 
         private void addEnd(int at, int to) {
-            if (!isCrowded(at)) {
+            if (isPlace(at) && laneCounts[at] < LANES_AT_A_PLACE) {
                 int end = at * LANES_AT_A_PLACE + laneCounts[at];
                 leads[end] = to;
                 laneNumbers[end] = lanes;
@@ -1124,10 +1125,8 @@ public final class TwoSeek {
 
         /** Where a LANE of a PLACE leads, SHUT or not; NONE if there is none such. */
         int leadsTo(int place, int k) {
-            if (k < 0 || k >= lanesAt(place) || k >= LANES_AT_A_PLACE) {
-                return NONE;
-            }
-            return leads[place * LANES_AT_A_PLACE + k];
+            boolean isThere = isPlace(place) && k >= 0 && k < laneCounts[place] && k < LANES_AT_A_PLACE;
+            return isThere ? leads[place * LANES_AT_A_PLACE + k] : NONE;
         }
 
         /** Likewise, but NONE if it is SHUT. */
@@ -1149,53 +1148,53 @@ public final class TwoSeek {
 
         /** Who does a STEP in a PLACE comes to this one. */
         int after(int place, int step) {
-            return isPlace(place) && step >= 0 && step < STEPS ? after[place * STEPS + step] : place;
+            return isPlace(place) && step >= 0 && step < STEPS ? stepsLead[place * STEPS + step] : place;
         }
 
         /** Finds anew where STEPS lead and how far it is, whenever LANES change. */
         void settle() {
             for (int place = 0; place < places && place < MOST_PLACES; place++) {
-                after[place * STEPS] = place;
+                stepsLead[place * STEPS] = place;
                 for (int k = 0; k < LANES_AT_A_PLACE; k++) {
                     int there = leadsTo(place, k);
                     boolean isOpen = there != NONE && !isShut(laneNumbers[place * LANES_AT_A_PLACE + k]);
-                    after[place * STEPS + k + 1] = isOpen ? there : place;
+                    stepsLead[place * STEPS + k + 1] = isOpen ? there : place;
                 }
             }
             measure();
         }
 
         private void measure() {
+            for (int pair = 0; pair < PAIRS; pair++) {
+                distances[pair] = pair / MOST_PLACES == pair % MOST_PLACES ? 0 : OUT_OF_REACH;
+            }
             for (int a = 0; a < places; a++) {
-                for (int b = 0; b < places; b++) {
-                    putLanesBetween(a, b, a == b ? 0 : OUT_OF_REACH);
-                }
                 for (int k = 0; k < LANES_AT_A_PLACE; k++) {
-                    putLanesBetween(a, opensTo(a, k), 1);
+                    shorten(a, opensTo(a, k), 1);
                 }
             }
             for (int over = 0; over < places; over++) {
                 for (int a = 0; a < places; a++) {
-                    for (int b = 0; b < places; b++) {
-                        int round = lanesBetween(a, over) + lanesBetween(over, b);
-                        putLanesBetween(a, b, Math.min(round, lanesBetween(a, b)));
+                    int there = lanesBetween(a, over);
+                    for (int b = 0; b < places && there < OUT_OF_REACH; b++) {
+                        shorten(a, b, there + lanesBetween(over, b));
                     }
                 }
             }
         }
 
-        private void putLanesBetween(int a, int b, int many) {
-            if (isPlace(a) && isPlace(b)) {
-                lanesBetween[a * MOST_PLACES + b] = many;
+        private void shorten(int a, int b, int many) {
+            if (isPlace(a) && isPlace(b) && many < distances[a * MOST_PLACES + b]) {
+                distances[a * MOST_PLACES + b] = many;
             }
         }
 
         int lanesBetween(int a, int b) {
-            return isPlace(a) && isPlace(b) ? lanesBetween[a * MOST_PLACES + b] : OUT_OF_REACH;
+            return isPlace(a) && isPlace(b) ? distances[a * MOST_PLACES + b] : OUT_OF_REACH;
         }
 
         boolean areHeard(int a, int b) {
-            return lanesBetween(a, b) <= hears;
+            return hears > 0 && lanesBetween(a, b) <= hears;
         }
 
         /** Where one comes from a PLACE by its first LANE that leads nearer to a goal. */
@@ -1320,6 +1319,9 @@ public final class TwoSeek {
         private final Walker third;
         // by PLACES: the STEP by which FIRST left it latest, 0 if it did not
         private final int[] leftBy = new int[MOST_PLACES];
+        // of all likely beginnings: WHEN, each times its likelihood, and the greatest
+        private int allTimes;
+        private int longestTime;
 
         Walk(Ways ways) {
             first = new Walker(ways);
@@ -1373,36 +1375,22 @@ public final class TwoSeek {
             }
         }
 
-        /** WHEN from all likely beginnings, each times its likelihood; NONE if one is NEVER. */
-        int allTimes(Town town, int one, int other) {
-            int sum = 0;
+        /** Sums up WHEN from all likely beginnings; false if one of these is NEVER. */
+        boolean meetAlways(Town town, int one, int other) {
+            allTimes = 0;
+            longestTime = 0;
             for (int a = 0; a < town.places; a++) {
                 for (int b = 0; b < town.places; b++) {
                     int likely = town.likelihood(a, b);
                     int ticks = likely == 0 ? 0 : ticksToMeet(town, one, other, a, b);
                     if (ticks == NONE) {
-                        return NONE;
+                        return false;
                     }
-                    sum += likely * ticks;
+                    allTimes += likely * ticks;
+                    longestTime = Math.max(longestTime, ticks);
                 }
             }
-            return sum;
-        }
-
-        /** The greatest of these; NONE if one is NEVER. */
-        int longestTime(Town town, int one, int other) {
-            int longest = 0;
-            for (int a = 0; a < town.places; a++) {
-                for (int b = 0; b < town.places; b++) {
-                    int likely = town.likelihood(a, b);
-                    int ticks = likely == 0 ? 0 : ticksToMeet(town, one, other, a, b);
-                    if (ticks == NONE) {
-                        return NONE;
-                    }
-                    longest = Math.max(longest, ticks);
-                }
-            }
-            return longest;
+            return true;
         }
 
         void beginThree(int one, int two, int last, int a, int b, int c) {
