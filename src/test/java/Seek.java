@@ -1,7 +1,17 @@
+import java.io.IOException;
+import java.nio.charset.StandardCharsets;
+import java.nio.file.Files;
+import java.nio.file.Path;
+
 /** What the tests share: calls whose answers are due, and towns as texts. */
 final class Seek {
+    private static final Path DOCUMENT = Path.of("../shared/DOC.md");
+
     private static int wrong = 0;
     private static int asked = 0;
+    private static int sentences = 0;
+    private static String about = "";
+    private static String document = null;
 
     private Seek() {
     }
@@ -11,9 +21,28 @@ final class Seek {
         if (got != want) {
             wrong++;
             if (wrong <= 50) {
-                System.out.println(call + " answered " + got + ", due is " + want);
+                System.out.println(about + call + " answered " + got + ", due is " + want);
             }
         }
+    }
+
+    /** What is asked from here on is for these words of the document, which must stand there. */
+    static void says(String words) {
+        about = "";
+        sentences++;
+        due("the document says '" + words + "'", Files.notExists(DOCUMENT) || document().contains(words), true);
+        about = "'" + words + "': ";
+    }
+
+    private static String document() {
+        if (document == null) {
+            try {
+                document = Files.readString(DOCUMENT, StandardCharsets.UTF_8).replaceAll("\\s+", " ");
+            } catch (IOException e) {
+                throw new IllegalStateException(e);
+            }
+        }
+        return document;
     }
 
     static void due(String call, boolean got, boolean want) {
@@ -37,7 +66,8 @@ final class Seek {
     }
 
     static void end() {
-        System.out.println(asked + " answers asked, " + wrong + " are not as due");
+        String held = sentences == 0 ? "" : " for " + sentences + " sentences";
+        System.out.println(asked + " answers asked" + held + ", " + wrong + " are not as due");
         if (wrong != 0 || asked == 0) {
             System.exit(1);
         }
