@@ -71,9 +71,9 @@ public final class WalkEdgeTest {
             for (int step = 1; step <= 4; step++) {
                 boolean goes = step != lane + 1;
                 Seek.due(x, "SHUT " + lane + ", STEP " + step, x.when(step, 0, 0, step), goes ? 1 : -1, goes ? 0 : 8);
-                // who waits can be met where it is
-                Seek.due(x, "SHUT " + lane + ", waits at " + step, x.when(step, 1, 0, 2), lane == 1 ? -1 : goes ? -1 : 1,
-                        goes || lane == 1 ? 8 : 0);
+                // who waits in m is met there by one who comes from q, by LANE 1 of m
+                boolean met = !goes && lane != 1;
+                Seek.due(x, "SHUT " + lane + ", waits by " + step, x.when(step, 1, 0, 2), met ? 1 : -1, met ? 0 : 8);
             }
             x.shut(lane, false);
         }
